@@ -198,7 +198,7 @@ public final class CommandBuses {
         for (int i = 0; i < table.count; i++) {
             Message m = table.messages[i];
             if (m.isIn(frame) && !roster.hasDropped(m)) {
-                m.outcome = controller.outcomeOf(m);
+                m.outcome = controller.outcomeOfDoing(m);
                 roster.note(m);
                 well += m.outcome == OUTCOME_FAILED ? 0 : 1;
             }
@@ -707,7 +707,7 @@ public final class CommandBuses {
             }
         }
 
-        int outcomeOf(Message m) {
+        int outcomeOfDoing(Message m) {
             if (goesWell(m, ownBus)) {
                 return 1;
             }
@@ -747,17 +747,17 @@ public final class CommandBuses {
             int command = Commands.toReceive(m.x, m.subaddress, m.n);
             boolean obeys = wires.carry(bus, command) && x.obey(command);
             boolean dataGood = wires.carryData(bus, m.values, 0, m.n);
-            boolean answers = obeys && x.receive(dataGood, m.subaddress, m.values, 0, m.n);
-            return answers && statusComes(x, bus);
+            boolean receives = obeys && x.receive(dataGood, m.subaddress, m.values, 0, m.n);
+            return receives && !x.isShut[bus] && wires.carry(bus, x.status());
         }
 
         private boolean takeGoesWell(Message m, int bus) {
             Terminal x = terminals[m.x];
             int first = Terminal.firstOf(m.subaddress);
             int command = Commands.toSend(m.x, m.subaddress, m.n);
-            boolean obeys = wires.carry(bus, command) && x.obey(command);
-            boolean statusGood = obeys && statusComes(x, bus);
-            boolean dataGood = obeys && !x.isShut[bus] && wires.carryData(bus, x.toSend, first, m.n);
+            boolean answers = wires.carry(bus, command) && x.obey(command) && !x.isShut[bus];
+            boolean statusGood = answers && wires.carry(bus, x.status());
+            boolean dataGood = answers && wires.carryData(bus, x.toSend, first, m.n);
             if (!statusGood || !dataGood) {
                 return false;
             }
@@ -772,11 +772,11 @@ public final class CommandBuses {
             int toReceive = Commands.toReceive(m.y, m.subaddress, m.n);
             int toSend = Commands.toSend(m.x, m.subaddress, m.n);
             boolean obeysY = wires.carry(bus, toReceive) && y.obey(toReceive);
-            boolean obeysX = wires.carry(bus, toSend) && x.obey(toSend);
-            boolean statusGoodX = obeysX && statusComes(x, bus);
-            boolean dataGood = obeysX && !x.isShut[bus] && wires.carryData(bus, x.toSend, first, m.n);
-            boolean answersY = obeysY && y.receive(dataGood, m.subaddress, x.toSend, first, m.n);
-            boolean statusGoodY = answersY && statusComes(y, bus);
+            boolean answersX = wires.carry(bus, toSend) && x.obey(toSend) && !x.isShut[bus];
+            boolean statusGoodX = answersX && wires.carry(bus, x.status());
+            boolean dataGood = answersX && wires.carryData(bus, x.toSend, first, m.n);
+            boolean receivesY = obeysY && y.receive(dataGood, m.subaddress, x.toSend, first, m.n);
+            boolean statusGoodY = receivesY && !y.isShut[bus] && wires.carry(bus, y.status());
             return statusGoodX && statusGoodY;
         }
 
@@ -803,16 +803,13 @@ public final class CommandBuses {
 
         private boolean modeGoesWell(Terminal x, int code, int bus) {
             boolean obeys = wires.carry(bus, Commands.mode(x.number, code)) && x.obeyMode(code, bus);
-            boolean statusGood = obeys && statusComes(x, bus);
+            boolean answers = obeys && !x.isShut[bus];
+            boolean statusGood = answers && wires.carry(bus, x.status());
             if (code != MODE_TELL_COMMAND) {
                 return statusGood;
             }
-            boolean dataGood = obeys && !x.isShut[bus] && wires.carry(bus, DATA_MARK + x.lastCommand);
+            boolean dataGood = answers && wires.carry(bus, DATA_MARK + x.lastCommand);
             return statusGood && dataGood;
-        }
-
-        private boolean statusComes(Terminal terminal, int bus) {
-            return !terminal.isShut[bus] && wires.carry(bus, terminal.status());
         }
     }
 }

@@ -1,5 +1,8 @@
-/** Counts the answers of one test that are not as due, and prints them. */
+/** Counts the answers of one test that are not as due, and prints the first of them. */
 final class Due {
+    /** Enough to find the cause; a test with millions of answers would drown it. */
+    private static final int PRINTED = 50;
+
     private int checked;
     private int wrong;
 
@@ -7,7 +10,9 @@ final class Due {
         checked++;
         if (got != want) {
             wrong++;
-            System.out.println(call + " answered " + got + ", due is " + want);
+            if (wrong <= PRINTED) {
+                System.out.println(call + " answered " + got + ", due is " + want);
+            }
         }
     }
 

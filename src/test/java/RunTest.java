@@ -12,12 +12,14 @@ public final class RunTest {
         modesWithEachWordHit();
         shutSenders();
         shutAndReset();
+        resetOpensBothBuses();
         passWithSilentTerminals();
         order();
         droppedAfterThreeBadFrames();
         aGoodFrameBetween();
         badOncePerFrame();
         passCountsForBoth();
+        everyTerminalIsDroppedAndPolled();
         polledInFrameZero();
         pollOnTheOwnBusOnce();
         pollKeepsMarks();
@@ -286,6 +288,27 @@ public final class RunTest {
         due.is("dropped now", b.terminal(2, 6), 1);
     }
 
+    private static void resetOpensBothBuses() {
+        CommandBuses b = new CommandBuses();
+        b.message(4, 2, 0, 0, 4, 4);
+        b.message(4, 2, 0, 0, 8, 4);
+        b.seal(10000);
+        b.fault(0, 2, 0);
+        due.is("SHUT on bus 1", b.run(), 1);
+        due.is("shut on 0", b.terminal(2, 3), 1);
+        b.open();
+        b.seal(10000);
+        b.fault(0, 0, 1000);
+        b.fault(1, 2, 0);
+        due.is("SHUT on bus 0", b.run(), 0);
+        due.is("shut on both", b.terminal(2, 3) + b.terminal(2, 4), 2);
+        due.is("RESET is heard on bus 0 alone", b.run(), 1);
+        due.is("outcome", b.outcome(1), 3);
+        due.is("open on 0", b.terminal(2, 3), 0);
+        due.is("open on 1", b.terminal(2, 4), 0);
+        due.is("bus", b.bus(), 0);
+    }
+
     private static void passWithSilentTerminals() {
         CommandBuses b = with(2, 0, 1, 1, 2);
         b.seal(1000);
@@ -442,6 +465,26 @@ public final class RunTest {
         due.is("y is back", b.run(), 1);
         due.is("y", b.terminal(4, 5), 1);
         due.is("x", b.terminal(1, 5), 1);
+    }
+
+    private static void everyTerminalIsDroppedAndPolled() {
+        for (int t = 0; t < 6; t++) {
+            CommandBuses b = with(4, t, 0, 0, 1);
+            b.seal(1000);
+            b.live(t, false);
+            for (int i = 0; i < 4; i++) {
+                b.run();
+            }
+            due.is("dropped after three frames, no words in the fourth", b.words(), 9);
+            due.is("dropped", b.terminal(t, 6), 1);
+            due.is("run", b.run(), 0);
+            due.is("the poll", b.heard(0), t * 2048 + 1026);
+            b.live(t, true);
+            b.open();
+            b.seal(1000);
+            due.is("back", b.run(), 1);
+            due.is("dropped no more", b.terminal(t, 6), 0);
+        }
     }
 
     private static void polledInFrameZero() {
