@@ -5,13 +5,19 @@ final class Due {
 
     private int checked;
     private int wrong;
+    private String sentence = "";
+
+    /** Names the sentence of the document that the answers from here on are about. */
+    void about(String words) {
+        sentence = "[" + words + "] ";
+    }
 
     void is(String call, long got, long want) {
         checked++;
         if (got != want) {
             wrong++;
             if (wrong <= PRINTED) {
-                System.out.println(call + " answered " + got + ", due is " + want);
+                System.out.println(sentence + call + " answered " + got + ", due is " + want);
             }
         }
     }

@@ -5,15 +5,14 @@ public final class WordsTest {
     private static final String DATA = "000111";
 
     public static void main(String[] args) {
-        CommandBuses b = new CommandBuses();
-        writtenOut(b);
-        everyWord(b);
-        wrongValues(b);
-        outOfRange(b);
-        syncs(b);
-        halvesOfABit(b);
-        parity(b);
-        whatIsWrongFirst(b);
+        writtenOut(new CommandBuses());
+        everyWord();
+        wrongValues(new CommandBuses());
+        outOfRange(new CommandBuses());
+        syncs(new CommandBuses());
+        halvesOfABit(new CommandBuses());
+        parity(new CommandBuses());
+        whatIsWrongFirst(new CommandBuses());
         due.end();
     }
 
@@ -49,8 +48,10 @@ public final class WordsTest {
             0b000111_0101010101010101_0101010101100101_01L);
     }
 
-    private static void everyWord(CommandBuses b) {
+    /** A new object for every value: nothing is promised after 512 calls on one. */
+    private static void everyWord() {
         for (int v = 0; v <= 65535; v++) {
+            CommandBuses b = new CommandBuses();
             long command = halves(text(false, v));
             long data = halves(text(true, v));
             due.is("encode(false, " + v + ")", b.encode(false, v), command);
